@@ -24,6 +24,7 @@ public final class ExactTurtle {
     private static final int NAMES = 8;
     private static final int PARTS = 4;
     private static final int FIRST_DIRECTIONS = 4;
+    private static final int GREATEST_INT = 2147483647;
 
     // Far above what the limits on basic commands and rounds let one program do.
     private static final int MANY_STEPS = 1000000;
@@ -252,7 +253,7 @@ public final class ExactTurtle {
             return 0;
         }
         // Calls that do nothing have no limit of their own, so their number may be too great for an int.
-        return (int) Math.min(journey.callCounts[index], (long) Integer.MAX_VALUE);
+        return (int) Math.min(journey.callCounts[index], (long) GREATEST_INT);
     }
 
     public int createTrace(int size) throws IllegalArgumentException {
@@ -318,19 +319,13 @@ public final class ExactTurtle {
     /** What a move of length 1 adds to a part of a point. */
     private static int movePart(int directions, int heading, int part) {
         boolean ofRoot = part == 1 || part == 3;
-        boolean ofY = part >= 2;
-        // The sine of an angle is the cosine of the angle a quarter of the circle before it.
+        int[] table = ofRoot ? ROOTS_12 : COSINES_12;
         if (directions == 8) {
-            int eighth = ofY ? heading - 2 : heading;
-            return entry(ofRoot ? ROOTS_8 : COSINES_8, eighth);
+            table = ofRoot ? ROOTS_8 : COSINES_8;
         }
         int perDirection = directions == 4 ? 3 : directions == 6 ? 2 : 1;
-        int twelfth = ofY ? heading * perDirection - 3 : heading * perDirection;
-        return entry(ofRoot ? ROOTS_12 : COSINES_12, twelfth);
-    }
-
-    /** An entry of a table for the whole circle, in which -1 is the last place. */
-    private static int entry(int[] table, int place) {
+        // The sine of an angle is the cosine of the angle a quarter of the circle before it.
+        int place = heading * perDirection - (part >= 2 ? table.length / 4 : 0);
         int index = place < 0 ? place + table.length : place;
         return index >= 0 && index < table.length ? table[index] : 0;
     }
@@ -568,9 +563,8 @@ public final class ExactTurtle {
         // Procedures without basic commands and rounds are executed once in a run and then only
         // counted: nothing else would limit how many calls of them a short text can ask for.
         private final boolean[] idle = new boolean[NAMES];
-        private final int[] idleLevels = new int[NAMES];
         private final long[] idleCounts = new long[NAMES * NAMES];
-        private final long[] countsBefore = new long[(MAX_ACTIVE + 1) * NAMES];
+        private final long[] countsBefore = new long[MAX_ACTIVE * NAMES];
         private int rounds;
 
         void perform(Program program, Procedures procedures, Journey journey) {
@@ -581,9 +575,8 @@ public final class ExactTurtle {
             execute(program, procedures, journey, 0);
         }
 
-        /** Executes a program within so many active calls; answers how many were active at most. */
-        private int execute(Program program, Procedures procedures, Journey journey, int active) {
-            int deepest = active;
+        /** Executes a program within so many active calls. */
+        private void execute(Program program, Procedures procedures, Journey journey, int active) {
             int open = 0;
             int at = 0;
             for (int steps = 0; steps < MANY_STEPS && at < program.size; steps++) {
@@ -606,37 +599,35 @@ public final class ExactTurtle {
                         open--;
                     }
                 } else if (nameIndex(kind) >= 0) {
-                    deepest = Math.max(deepest, performCall(nameIndex(kind), procedures, journey, active));
+                    performCall(nameIndex(kind), procedures, journey, active);
                 } else {
                     doBasic(kind, program.numberAt(at), journey);
                 }
                 at++;
             }
-            return deepest;
         }
 
-        /** Performs a call within so many active ones; answers how many were active at most. */
-        private int performCall(int index, Procedures procedures, Journey journey, int active) {
+        private void performCall(int index, Procedures procedures, Journey journey, int active) {
             Program program = procedures.get(index);
             if (program == null) {
                 throw new NoSuchElementException("the procedure is undefined");
             }
-            int levels = index >= 0 && index < NAMES && idle[index] ? idleLevels[index] : 1;
-            if (active < 0 || active + levels > MAX_ACTIVE) {
+            if (active < 0 || active >= MAX_ACTIVE) {
                 throw new IllegalStateException("too many active calls");
             }
+            // An idle procedure has come to its end before, so it calls none that is active, and as
+            // there are only eight, the calls in it cannot be too many.
             if (index >= 0 && index < NAMES && idle[index]) {
                 addIdleCounts(index, journey);
-                return active + levels;
+                return;
             }
             keepCounts(active, journey);
             journey.noteCall(index);
             int doneBefore = rounds + journey.basics;
-            int deepest = execute(program, procedures, journey, active + 1);
+            execute(program, procedures, journey, active + 1);
             if (rounds + journey.basics == doneBefore) {
-                rememberIdle(index, deepest - active, active, journey);
+                rememberIdle(index, active, journey);
             }
-            return deepest;
         }
 
         private void beginRound() {
@@ -668,22 +659,18 @@ public final class ExactTurtle {
         }
 
         private void keepCounts(int active, Journey journey) {
-            int row = active * NAMES;
-            if (row >= 0 && row + NAMES <= countsBefore.length) {
-                System.arraycopy(journey.callCounts, 0, countsBefore, row, NAMES);
+            if (active >= 0 && active < MAX_ACTIVE) {
+                System.arraycopy(journey.callCounts, 0, countsBefore, active * NAMES, NAMES);
             }
         }
 
-        private void rememberIdle(int index, int levels, int active, Journey journey) {
-            int row = index * NAMES;
-            int rowBefore = active * NAMES;
-            if (index < 0 || index >= NAMES || active < 0 || active > MAX_ACTIVE) {
+        private void rememberIdle(int index, int active, Journey journey) {
+            if (index < 0 || index >= NAMES || active < 0 || active >= MAX_ACTIVE) {
                 return;
             }
             idle[index] = true;
-            idleLevels[index] = levels;
             for (int i = 0; i < NAMES; i++) {
-                idleCounts[row + i] = journey.callCounts[i] - countsBefore[rowBefore + i];
+                idleCounts[index * NAMES + i] = journey.callCounts[i] - countsBefore[active * NAMES + i];
             }
         }
 
@@ -1114,7 +1101,7 @@ public final class ExactTurtle {
             if (length == 1) {
                 return journey.lengthAt(from);
             }
-            int best = Integer.MAX_VALUE;
+            int best = GREATEST_INT;
             for (int first = 1; first < length; first++) {
                 best = Math.min(best, get(from, first) + get(from + first, length - first));
             }

@@ -349,6 +349,8 @@ public final class PromisesTest {
         Check.define(x, 'H', "f1");
         Check.same("8 active calls", 1, () -> Check.run(x, "A"));
         Check.same("8 active calls again", 2, () -> Check.run(x, "AA"));
+        Check.define(x, 'H', "2(2(2(2(2(2(u))))))");
+        Check.same("parentheses in 8 active calls", 256, () -> Check.run(x, "2(2(1(1(1(1(A))))))"));
         Check.define(x, 'H', "f1A");
         Check.raises("9 active calls", STATE, () -> Check.run(x, "A"));
         Check.same("an undefined call that never comes", 1, () -> {
@@ -399,17 +401,11 @@ public final class PromisesTest {
         Check.same("idle ones at the eighth level", 0, () -> Check.run(x, "HA"));
         Check.define(x, 'H', "u");
         Check.same("a chain of eight", 2, () -> Check.run(x, "A"));
+        Check.define(x, 'H', "A");
+        Check.raises("a circle of all", STATE, () -> Check.run(x, "A"));
         Check.define(x, 'G', "");
-        Check.define(x, 'H', "G");
-        Check.define(x, 'F', "EH");
-        Check.define(x, 'E', "");
-        Check.define(x, 'D', "F");
-        Check.define(x, 'C', "D");
-        Check.define(x, 'B', "C");
-        Check.define(x, 'A', "B");
-        Check.same("idle levels are added", 0, () -> Check.run(x, "HA"));
-        Check.define(x, 'E', "G");
-        Check.define(x, 'G', "F");
+        Check.define(x, 'H', "");
+        Check.define(x, 'A', "GHGHA");
         Check.raises("a circle behind idle ones", STATE, () -> Check.run(x, "A"));
     }
 
@@ -562,12 +558,23 @@ public final class PromisesTest {
         met("the star of 8", 16, 8, "8(f9l3)");
         met("the star of 12", 48, 12, "12(f9l5)");
         met("the first and the last of an open track", 1, 4, "f3l1f1l1f1l1f1");
-        Check.same("reset", 0, () -> {
-            ExactTurtle x = Check.after(4, "f2l1f1l1f1l1f2");
-            x.meetings();
-            Check.run(x, "f1");
-            return x.meetings();
-        });
+        ExactTurtle y = new ExactTurtle();
+        for (int i = 0; i < 3; i++) {
+            Check.run(y, "f2l1f1l1f1l1f2");
+            Check.same("each run anew", 1, () -> y.meetings());
+            Check.same("each run anew, crossings", 1, () -> y.crossings());
+            Check.run(y, "f1");
+            Check.same("each run anew, without", 0, () -> y.meetings());
+            Check.same("each run anew, without crossings", 0, () -> y.crossings());
+            Check.raises("each run anew, without a first", NONE, () -> y.firstMeeting());
+            Check.run(y, "f1l2f2l2f3");
+            Check.same("each run anew, meetings alone", 1, () -> y.meetings());
+            Check.same("each run anew, no crossings", 0, () -> y.crossings());
+            Check.run(y, "f1f2l1f1l1f1l1f2");
+            Check.same("each run anew, another first", 1004, () -> y.firstMeeting());
+            y.setDirections(4);
+            Check.same("new directions anew", 0, () -> y.meetings());
+        }
         Check.same("again after a failure", 1, () -> {
             ExactTurtle x = Check.after(4, "f2l1f1l1f1l1f2");
             x.meetings();
@@ -758,6 +765,12 @@ public final class PromisesTest {
         text(5, "f1f1f1");
         text(6, "2(f12)");
         text(7, "2(f123)");
+        text(2, "l9");
+        text(3, "l10");
+        text(3, "l99");
+        text(4, "l100");
+        text(4, "l999");
+        text(5, "l1000");
         text(7, "4(f2l1)");
         text(5, "f1udd");
         text(13, "f1f1f2l3f1f1f2l3l9");
