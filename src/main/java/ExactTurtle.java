@@ -252,8 +252,7 @@ public final class ExactTurtle {
         if (index < 0) {
             return 0;
         }
-        // Calls that do nothing have no limit of their own, so their number may be too great for an int.
-        return (int) Math.min(journey.callCounts[index], (long) GREATEST_INT);
+        return journey.callsOf(index);
     }
 
     public int createTrace(int size) throws IllegalArgumentException {
@@ -560,18 +559,17 @@ public final class ExactTurtle {
     /** Executes programs. */
     private static final class Runner {
         private final int[] roundsLeft = new int[(MAX_ACTIVE + 1) * MAX_OPEN];
-        // Procedures without basic commands and rounds are executed once in a run and then only
-        // counted: nothing else would limit how many calls of them a short text can ask for.
-        private final boolean[] idle = new boolean[NAMES];
-        private final long[] idleCounts = new long[NAMES * NAMES];
-        private final long[] countsBefore = new long[MAX_ACTIVE * NAMES];
+        // A call without basic commands and rounds is executed once in a run within so many active
+        // calls and then only counted: nothing else would limit how many of them a short text asks for.
+        // A procedure's element tells within how many it came to its end, or -1.
+        private final int[] idleWithin = new int[NAMES];
+        private final int[] idleCounts = new int[NAMES * NAMES];
+        private final int[] countsBefore = new int[MAX_ACTIVE * NAMES];
         private int rounds;
 
         void perform(Program program, Procedures procedures, Journey journey) {
             rounds = 0;
-            for (int i = 0; i < NAMES; i++) {
-                idle[i] = false;
-            }
+            Arrays.fill(idleWithin, -1);
             execute(program, procedures, journey, 0);
         }
 
@@ -615,9 +613,8 @@ public final class ExactTurtle {
             if (active < 0 || active >= MAX_ACTIVE) {
                 throw new IllegalStateException("too many active calls");
             }
-            // An idle procedure has come to its end before, so it calls none that is active, and as
-            // there are only eight, the calls in it cannot be too many.
-            if (index >= 0 && index < NAMES && idle[index]) {
+            // The calls in it were not too many within as many active calls as now, or within more.
+            if (index >= 0 && index < NAMES && active <= idleWithin[index]) {
                 addIdleCounts(index, journey);
                 return;
             }
@@ -668,7 +665,7 @@ public final class ExactTurtle {
             if (index < 0 || index >= NAMES || active < 0 || active >= MAX_ACTIVE) {
                 return;
             }
-            idle[index] = true;
+            idleWithin[index] = active;
             for (int i = 0; i < NAMES; i++) {
                 idleCounts[index * NAMES + i] = journey.callCounts[i] - countsBefore[active * NAMES + i];
             }
@@ -679,7 +676,7 @@ public final class ExactTurtle {
                 return;
             }
             for (int i = 0; i < NAMES; i++) {
-                journey.callCounts[i] += idleCounts[index * NAMES + i];
+                journey.addCalls(i, idleCounts[index * NAMES + i]);
             }
         }
     }
@@ -689,7 +686,7 @@ public final class ExactTurtle {
         private final Track track = new Track();
         private final int[] letters = new int[MAX_BASICS];
         private final int[] numbers = new int[MAX_BASICS];
-        private final long[] callCounts = new long[NAMES];
+        private final int[] callCounts = new int[NAMES];
         private final int[] callOrder = new int[NAMES];
         private int basics;
         private int namesCalled;
@@ -698,7 +695,7 @@ public final class ExactTurtle {
 
         void restart(int directions) {
             track.restart(directions);
-            Arrays.fill(callCounts, 0L);
+            Arrays.fill(callCounts, 0);
             basics = 0;
             namesCalled = 0;
             turned = 0;
@@ -732,7 +729,18 @@ public final class ExactTurtle {
                 callOrder[namesCalled] = index;
                 namesCalled++;
             }
-            callCounts[index]++;
+            addCalls(index, 1);
+        }
+
+        /** Counts calls: those that do nothing have no limit, so the number stops at the greatest int. */
+        void addCalls(int index, int number) {
+            if (index >= 0 && index < NAMES) {
+                callCounts[index] = (int) Math.min((long) callCounts[index] + number, (long) GREATEST_INT);
+            }
+        }
+
+        int callsOf(int index) {
+            return index >= 0 && index < NAMES ? callCounts[index] : 0;
         }
 
         int heading() {

@@ -23,6 +23,9 @@ public final class OracleTest {
         for (int i = 0; i < 1500; i++) {
             compareRuns(random);
         }
+        for (int i = 0; i < 4000; i++) {
+            compareCircles(random);
+        }
         for (int i = 0; i < 1500; i++) {
             compareSmooth(random);
         }
@@ -154,6 +157,36 @@ public final class OracleTest {
         }
         compareAll(what, x, model);
         compareWalk(what, x, model);
+    }
+
+    /** Chains of calls that do nothing, on the way round a circle of calls that ends for one reason or another. */
+    private static void compareCircles(Random random) {
+        ExactTurtle x = new ExactTurtle();
+        Map<Character, String> procedures = new HashMap<>();
+        int circle = random.nextInt(4);
+        for (char name = 'A'; name <= 'H'; name++) {
+            boolean onCircle = name < 'A' + circle;
+            char next = name + 1 == 'A' + circle ? 'A' : (char) (name + 1);
+            StringBuilder text = new StringBuilder();
+            for (int i = random.nextInt(3); i > 0 && name < 'H'; i--) {
+                text.append((char) (name + 1 + random.nextInt('H' - name)));
+            }
+            if (onCircle) {
+                text.append('f').append(250 + random.nextInt(600)).append(next).append(random.nextBoolean() ? "G" : "");
+            }
+            procedures.put(name, text.toString());
+            Check.define(x, name, text.toString());
+        }
+        String text = program(random, 1 + random.nextInt(3), 500, "ABCDEFGH") + (char) ('A' + random.nextInt(3));
+        Model model = new Model(4, procedures);
+        String failure = model.execute(text, 0);
+        String what = procedures + " " + text;
+        if (failure != null) {
+            Check.raises(what, exception(failure), () -> Check.run(x, text));
+        } else {
+            Check.same(what, model.basics.size(), () -> Check.run(x, text));
+            compareCalls(what, x, model);
+        }
     }
 
     private static Class<?> exception(String name) {

@@ -20,6 +20,7 @@ public final class PromisesTest {
         run();
         limitsOfRuns();
         callsThatDoNothing();
+        chainsThatGetTooDeep();
         orderOfFailures();
         point();
         points();
@@ -407,6 +408,42 @@ public final class PromisesTest {
         Check.define(x, 'H', "");
         Check.define(x, 'A', "GHGHA");
         Check.raises("a circle behind idle ones", STATE, () -> Check.run(x, "A"));
+    }
+
+    /** A chain of calls that do nothing ends well in a circle's first rounds, and is then too deep. */
+    private static void chainsThatGetTooDeep() {
+        for (int chain = 1; chain <= 7; chain++) {
+            ExactTurtle x = new ExactTurtle();
+            for (int i = 0; i < chain; i++) {
+                Check.define(x, (char) ('B' + i), i + 1 < chain ? "" + (char) ('C' + i) : "");
+            }
+            // The circle's A may come to its f so often before the chain in the next A is too deep.
+            int times = 8 - chain;
+            int farthest = 2500 / times;
+            Check.define(x, 'A', "Bf" + farthest + "A");
+            Check.raises("chain of " + chain + " before the range", STATE, () -> Check.run(x, "A"));
+            Check.raises("called outside, too", STATE, () -> Check.run(x, "2(B)A"));
+            Check.define(x, 'A', "f" + farthest + "BA");
+            Check.raises("the range just before a chain of " + chain, RANGE, () -> Check.run(x, "A"));
+            Check.define(x, 'A', "f" + 2500 / (times + 1) + "BA");
+            Check.raises("chain of " + chain + " just before the range", STATE, () -> Check.run(x, "A"));
+            Check.define(x, 'A', "Bf" + (farthest + 1) + "A");
+            Check.raises("the range before a chain of " + chain, RANGE, () -> Check.run(x, "BA"));
+            Check.same("the chain alone", 0, () -> Check.run(x, "B2(B)"));
+        }
+        callsSeenWithinMoreAndFewer();
+    }
+
+    private static void callsSeenWithinMoreAndFewer() {
+        ExactTurtle x = new ExactTurtle();
+        Check.define(x, 'H', "");
+        Check.define(x, 'G', "HH");
+        for (char name = 'A'; name < 'G'; name++) {
+            Check.define(x, name, "H" + (char) (name + 1) + "G");
+        }
+        Check.same("within fewer, more and fewer calls", 1, () -> Check.run(x, "HGAGHAu"));
+        Check.same("of G", 16, () -> x.calls('G'));
+        Check.same("of H", 2 * 16 + 2 * 6 + 2, () -> x.calls('H'));
     }
 
     private static void orderOfFailures() {

@@ -90,6 +90,9 @@ public final class RoomTest {
         Check.same("counted", Integer.MAX_VALUE, () -> x.calls('A'));
         Check.same("the outer ones", 2000, () -> x.calls('H'));
         Check.same("the next ones", 200000, () -> x.calls('G'));
+        Check.same("more calls than a long can tell", 1, () -> Check.run(x, "1000(" + "H".repeat(93) + ")u"));
+        Check.same("are counted as the greatest int", Integer.MAX_VALUE, () -> x.calls('A'));
+        Check.same("the outer ones of them", 93000, () -> x.calls('H'));
     }
 
     private static void manyRounds() {
