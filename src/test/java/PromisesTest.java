@@ -721,6 +721,10 @@ public final class PromisesTest {
         Check.same("mirror of a square", true, () -> Check.after(4, "4(f2l1)").isMirrored());
         Check.same("mirror of a rectangle", true, () -> Check.after(4, "2(f2l1f3l1)").isMirrored());
         Check.same("mirror of a trapezium", true, () -> Check.after(6, "f2l2f1l1f1l1f1l2").isMirrored());
+        String[] startsOfATrapezium = {"f1l2f2l2f1l1f1l1", "f1l1f1l2f2l2f1l1", "f1l1f1l1f1l2f2l2"};
+        for (String start : startsOfATrapezium) {
+            Check.same("mirror of a trapezium " + start, true, () -> Check.after(6, start).isMirrored());
+        }
         Check.same("mirror of a parallelogram", false, () -> Check.after(6, "2(f1l1f2l2)").isMirrored());
         Check.same("mirror of a rhombus", true, () -> Check.after(6, "2(f1l1f1l2)").isMirrored());
         Check.same("mirror of an L", true, () -> Check.after(4, "f2l1f1l1f1r1f1l1f1l1f2l1").isMirrored());
