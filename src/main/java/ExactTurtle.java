@@ -559,9 +559,9 @@ public final class ExactTurtle {
     /** Executes programs. */
     private static final class Runner {
         private final int[] roundsLeft = new int[(MAX_ACTIVE + 1) * MAX_OPEN];
-        // A call without basic commands and rounds is executed once in a run within so many active
-        // calls and then only counted: nothing else would limit how many of them a short text asks for.
-        // A procedure's element tells within how many it came to its end, or -1.
+        // A call without basic commands and rounds is only counted if it came to its end before: nothing
+        // else would limit how many such calls a short text asks for. For each procedure stands here the
+        // greatest number of active calls within which it did so, or -1: within more, it may be too deep.
         private final int[] idleWithin = new int[NAMES];
         private final int[] idleCounts = new int[NAMES * NAMES];
         private final int[] countsBefore = new int[MAX_ACTIVE * NAMES];
