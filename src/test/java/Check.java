@@ -2,9 +2,15 @@
 final class Check {
     private static int wrong = 0;
     private static int done = 0;
+    private static String topic = "";
 
     interface Call {
         Object answer();
+    }
+
+    /** What the calls that follow are about, for the report. */
+    static void topic(String words) {
+        topic = words;
     }
 
     static void same(String what, Object want, Call call) {
@@ -39,7 +45,7 @@ final class Check {
     static void fail(String what, Object want, Object got) {
         wrong++;
         if (wrong <= 50) {
-            System.out.println(what + ": got " + text(got) + ", due is " + text(want));
+            System.out.println(topic + what + ": got " + text(got) + ", due is " + text(want));
         }
     }
 
@@ -61,6 +67,14 @@ final class Check {
         return feed(x, text).run();
     }
 
+    /** Runs a text that has to be right: what is asked next is asked of its run. */
+    static void runRight(ExactTurtle x, String text) {
+        int basics = run(x, text);
+        if (basics < 0) {
+            fail("run " + text, "a right text", basics);
+        }
+    }
+
     static int define(ExactTurtle x, char name, String text) {
         return feed(x, text).define(name);
     }
@@ -69,7 +83,7 @@ final class Check {
     static ExactTurtle after(int directions, String text) {
         ExactTurtle x = new ExactTurtle();
         x.setDirections(directions);
-        run(x, text);
+        runRight(x, text);
         return x;
     }
 
