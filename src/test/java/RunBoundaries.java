@@ -154,6 +154,15 @@ final class RunBoundaries extends Boundary {
             runFails(() -> chain(n, "A"), STATE, "A");
         }
         runFails(() -> chain(8, "0()H"), STATE, "A");
+        // Eight calls of A come to their f, the ninth fails before its own: 8 times 312 is within 2500, 9 times is not.
+        runFails(() -> chain(1, "f312A"), STATE, "A");
+        runFails(() -> chain(1, "f313A"), RANGE, "A");
+        runFails(() -> chain(2, "f625A"), STATE, "A");
+        runFails(() -> chain(2, "f626A"), RANGE, "A");
+        runFails(() -> chain(4, "f1250A"), STATE, "A");
+        runFails(() -> chain(4, "f1251A"), RANGE, "A");
+        runFails(() -> chain(8, "f2500A"), STATE, "A");
+        runFails(() -> chain(8, "f2501A"), RANGE, "A");
         Check.same("one after the other", 0, () -> Check.run(filled(), "H".repeat(100)));
         Check.same("are not active at the same time", 100, () -> {
             ExactTurtle x = filled();
@@ -162,6 +171,7 @@ final class RunBoundaries extends Boundary {
         });
         Check.same("a ninth call that never happens", 0, () -> Check.run(chain(8, "0(A)"), "A"));
         Check.same("parentheses are no calls", 1, () -> Check.run(chain(8, "1(1(1(1(1(1(u))))))"), "1(1(1(1(1(1(A))))))"));
+        Check.same("nor are rounds", 128, () -> Check.run(chain(8, "2(2(2(2(2(2(u))))))"), "1(1(1(1(1(2(A))))))"));
     }
 
     private static void atMost2000Rounds() {

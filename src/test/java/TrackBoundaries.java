@@ -512,6 +512,19 @@ final class TrackBoundaries extends Boundary {
         // The same line, at a little more than 71, and one along the axis.
         met("level, just before", 0, 0, -1, 12, "ul1f82r4df82ur4f82r5df71");
         met("level, just beyond", 1, 1, 1003, 12, "ul1f82r4df82ur4f82r5df72");
+        met("on one line aslant, apart", 0, 0, -1, 12, "l1f2uf2l6df1");
+        met("on one line aslant, end at end", 1, 0, 2, 12, "l1f2uf1l6df1");
+        met("on one line aslant, overlapping", 1, 0, 2, 12, "l1f2uf1l6df2");
+        met("on another line aslant, apart", 0, 0, -1, 8, "l3f2uf2l4df1");
+        met("on another line aslant, end at end", 1, 0, 2, 8, "l3f2uf1l4df1");
+        // One starts on the axis at 4 times the root of 3, a little less than 7.
+        met("on one line, not quite overlapping", 0, 0, -1, 12, "f6ul6f6l7f4r2f4l1df1");
+        met("on one line, just overlapping", 1, 0, 4, 12, "f7ul6f7l7f4r2f4l1df1");
+        // And here at 5 times the root of 2, a little more than 7.
+        met("on a line, not quite overlapping", 0, 0, -1, 8, "f7ul4f7l5f5r2f5l1df1");
+        met("on a line, just overlapping", 1, 0, 4, 8, "f8ul4f8l5f5r2f5l1df1");
+        Check.same("crossings alone", 1, () -> Check.after(4, "f2l1f1l1f1l1f2").crossings());
+        Check.same("the first alone", 3, () -> Check.after(4, "f2l1f1l1f1l1f2").firstMeeting());
     }
 
     private static void promise15PairsThatDoNotCount() {
@@ -639,6 +652,9 @@ final class TrackBoundaries extends Boundary {
         sameExtremes(12, "f97l6f97l7f113", 0, 0, 0, 113, 0, 0, 113, 0);
         sameExtremes(8, "f99l4f99l5f140", 0, 0, 198, 0, 0, 0, 0, 140);
         sameExtremes(8, "f99l4f99l5f141", 0, 0, 0, 141, 0, 0, 0, 141);
+        sameExtremes(12, "l2f1l6f1l5f1", 0, 0, 0, 1, 0, 0, 0, 1);
+        sameExtremes(12, "l1f1l6f1l7f1", 0, 0, 0, 1, 0, 0, 0, 1);
+        sameExtremes(12, "f1l6f1l7f1", 0, 0, 2, 0, 0, 0, 1, 0);
         sameExtremes(12, "l6f97l6f97l7f112", -194, 0, 0, 0, -112, 0, 0, 0);
         sameExtremes(12, "l6f97l6f97l7f113", 0, -113, 0, 0, -113, 0, 0, 0);
         sameExtremes(12, "l6f97l6f97l1f112l6f112", -194, 0, 0, 112, 0, 0, 112, 0);
