@@ -52,16 +52,15 @@ final class AnswerBoundaries extends Boundary {
 
     /** The corners, the order of symmetry, and whether it is mirrored. */
     private static void sameSides(int corners, int order, boolean mirrored, int d, String text) {
-        ExactTurtle x = Check.after(d, text);
         String what = " by " + d + " of " + text;
-        Check.same("corners" + what, corners, () -> x.corners());
-        Check.same("symmetry" + what, order, () -> x.symmetry());
-        Check.same("mirrored" + what, mirrored, () -> x.isMirrored());
+        Check.same("corners" + what, corners, () -> Check.after(d, text).corners());
+        Check.same("symmetry" + what, order, () -> Check.after(d, text).symmetry());
+        Check.same("mirrored" + what, mirrored, () -> Check.after(d, text).isMirrored());
     }
 
     private static void promise19Turns() {
-        about(19, "For a smooth track, a corner is a point between two segments of different directions; its turn is the "
-                + "difference of their directions, from 1 to d - 1 to the left.");
+        about(19, "For a smooth track, a corner is a point between two segments of different directions; its turn is "
+                + "the difference of their directions, from 1 to d - 1 to the left.");
         for (int d : DIRECTIONS) {
             sameSides(d, d, true, d, d + "(f1l1)");
             sameSides(d, d, true, d, d + "(f1r1)");
@@ -142,8 +141,8 @@ final class AnswerBoundaries extends Boundary {
     }
 
     private static void promise20Pairs() {
-        about(20, "The sides of the track and the turns at their ends form a cyclic sequence of pairs of a length and a turn, in the "
-                + "order of the track.");
+        about(20, "The sides of the track and the turns at their ends form a cyclic sequence of pairs of a length "
+                + "and a turn, in the order of the track.");
         sameSides(4, 2, true, 4, "2(f2l1f3l1)");
         sameSides(4, 2, true, 6, "2(f1l1f1l2)");
         sameSides(4, 2, false, 6, "2(f1l1f2l2)");
@@ -154,8 +153,8 @@ final class AnswerBoundaries extends Boundary {
     }
 
     private static void promise20Rotations() {
-        about(20, "The order of symmetry is the number of rotations of this sequence, from 0 to its length minus 1, that leave it "
-                + "unchanged.");
+        about(20, "The order of symmetry is the number of rotations of this sequence, from 0 to its length minus 1, "
+                + "that leave it unchanged.");
         sameSides(2, 2, true, 4, "f1l2f1l2");
         sameSides(12, 12, true, 12, "12(f1l1)");
         sameSides(12, 12, true, 12, "12(f1l5)");
@@ -180,8 +179,9 @@ final class AnswerBoundaries extends Boundary {
     }
 
     private static void promise21ReadBackward() {
-        about(21, "Returns whether a smooth track has a mirror symmetry: whether the cyclic sequence of its lengths and turns, which "
-                + "alternate, is the same as a rotation of itself read backward, with lengths on lengths and turns on turns.");
+        about(21, "Returns whether a smooth track has a mirror symmetry: whether the cyclic sequence of its lengths "
+                + "and turns, which alternate, is the same as a rotation of itself read backward, with lengths on "
+                + "lengths and turns on turns.");
         // Read backward, these are rotations of themselves only with lengths on turns.
         sameSides(5, 1, false, 4, "f1l1f1l1f1l3f2l2f3l1");
         sameSides(4, 2, false, 6, "2(f1l1f2l2)");
@@ -228,8 +228,8 @@ final class AnswerBoundaries extends Boundary {
     }
 
     private static void promise22ToTheEndOfTheRun() {
-        about(22, "Finds the shortest walk from the start point in direction 0 to the end of the run, that is, to the last point of "
-                + "the track in the direction at its end.");
+        about(22, "Finds the shortest walk from the start point in direction 0 to the end of the run, that is, to "
+                + "the last point of the track in the direction at its end.");
         sameWalk("", 4, "");
         sameWalk("f", 4, "uf1");
         sameWalk("fl", 4, "f1l1");
@@ -243,8 +243,8 @@ final class AnswerBoundaries extends Boundary {
     }
 
     private static void promise22TheLowestWalk() {
-        about(22, "Of the walks with the fewest commands, the one that is lowest in alphabetical order, with f before l before r, is "
-                + "written to the output buffer, each command by its letter alone.");
+        about(22, "Of the walks with the fewest commands, the one that is lowest in alphabetical order, with f "
+                + "before l before r, is written to the output buffer, each command by its letter alone.");
         about(22, "A walk is a sequence of the commands f1, l1 and r1.");
         sameWalk("ll", 4, "r2");
         sameWalk("lll", 6, "r3");
@@ -366,8 +366,8 @@ final class AnswerBoundaries extends Boundary {
     }
 
     private static void promise24WithoutNames() {
-        about(24, "Returns the length of the shortest text of a program that does not contain names and that executes the same basic "
-                + "commands as the run, in the same order.");
+        about(24, "Returns the length of the shortest text of a program that does not contain names and that "
+                + "executes the same basic commands as the run, in the same order.");
         sameText(4, "A");
         sameText(7, "AA");
         sameText(8, "B");
@@ -393,8 +393,8 @@ final class AnswerBoundaries extends Boundary {
     }
 
     private static void promise24LeadingZeros() {
-        about(24, "Numbers are written without leading zeros; a number and the number of a repetition that follows it are counted as "
-                + "if they could be told apart.");
+        about(24, "Numbers are written without leading zeros; a number and the number of a repetition that follows "
+                + "it are counted as if they could be told apart.");
         for (String letter : new String[] {"f", "l", "r"}) {
             sameText(2, letter + "0");
             sameText(2, letter + "0000");
@@ -569,8 +569,9 @@ final class AnswerBoundaries extends Boundary {
     }
 
     private static void promise27RunsThatDoNotFail() {
-        about(27, "During a run that does not fail, its elements get the directions after the first, second, and further basic "
-                + "commands, as many as it has elements; elements beyond the last basic command stay as they are.");
+        about(27, "During a run that does not fail, its elements get the directions after the first, second, and "
+                + "further basic commands, as many as it has elements; elements beyond the last basic command stay "
+                + "as they are.");
         ExactTurtle x = turtle(12);
         x.createTrace(3);
         Check.run(x, "l7l1");

@@ -56,8 +56,7 @@ public final class BoundaryTest {
             x.shortestWalk(8);
             return !Boundary.everything(x).equals(Boundary.everything(Boundary.filled(12, "l1")));
         });
-        Check.same("no change", "",
-                () -> Boundary.firstDifference(Boundary.everything(Boundary.filled()), Boundary.everything(Boundary.filled())));
+        Check.same("no change", Boundary.everything(Boundary.filled()), () -> Boundary.everything(Boundary.filled()));
     }
 
     private static void noSentenceIsLeftOut() {

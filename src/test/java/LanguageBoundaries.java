@@ -274,7 +274,8 @@ final class LanguageBoundaries extends Boundary {
     }
 
     private static void theGrammar() {
-        about(PROSE, "command = \"f\" number | \"l\" number | \"r\" number | \"u\" | \"d\" | number \"(\" program \")\" | name");
+        about(PROSE, "command = \"f\" number | \"l\" number | \"r\" number | \"u\" | \"d\" | number \"(\" program "
+                + "\")\" | name");
         isRight("f1l1r1ud1(u)", 7, 6);
         for (String letter : new String[] {"f", "l", "r"}) {
             isWrong(letter, 1);
@@ -304,8 +305,8 @@ final class LanguageBoundaries extends Boundary {
     }
 
     private static void numbersOf4Digits() {
-        about(PROSE, "A number consists of as many digits as follow one another, but of 4 at most; a fifth digit begins a "
-                + "new command, so that f12345(u) is f1234 followed by 5(u), and f12345 ends too early.");
+        about(PROSE, "A number consists of as many digits as follow one another, but of 4 at most; a fifth digit "
+                + "begins a new command, so that f12345(u) is f1234 followed by 5(u), and f12345 ends too early.");
         for (String letter : new String[] {"f", "l", "r"}) {
             isWrong(letter, 1);
             isRight(letter + "1", 1, 1);
@@ -354,8 +355,8 @@ final class LanguageBoundaries extends Boundary {
     }
 
     private static void whatCommandsDo() {
-        about(PROSE, "The command f moves the turtle forward by the number; l and r turn it left and right by the number of "
-                + "directions; u lifts the pen, and d lowers it.");
+        about(PROSE, "The command f moves the turtle forward by the number; l and r turn it left and right by the "
+                + "number of directions; u lifts the pen, and d lowers it.");
         Check.same("f0 moves nothing", 1, () -> Check.after(4, "f0").points());
         Check.same("f1", 2, () -> Check.after(4, "f1").point(1, 0));
         Check.same("l0 turns nothing", 0, () -> Check.after(4, "l0").direction());
@@ -369,7 +370,8 @@ final class LanguageBoundaries extends Boundary {
     }
 
     private static void repetitionsThatNeverHappen() {
-        about(PROSE, "A number with a program in parentheses executes this program as often as the number says, possibly never.");
+        about(PROSE, "A number with a program in parentheses executes this program as often as the number says, "
+                + "possibly never.");
         isRight("0(u)", 2, 0);
         isRight("0000(u)", 2, 0);
         isRight("1(u)", 2, 1);
@@ -389,8 +391,8 @@ final class LanguageBoundaries extends Boundary {
     }
 
     private static void sixOpenParentheses() {
-        about(PROSE, "At most 6 parentheses may be open at the same time; the number before the seventh one is accepted, "
-                + "but not the \"(\".");
+        about(PROSE, "At most 6 parentheses may be open at the same time; the number before the seventh one is "
+                + "accepted, but not the \"(\".");
         String six = "1(".repeat(6);
         String end = ")".repeat(6);
         isRight(six + end, 6, 0);
@@ -418,8 +420,8 @@ final class LanguageBoundaries extends Boundary {
     }
 
     private static void errorPositions() {
-        about(PROSE, "The error position is the offset, from 0, of the first character that cannot continue a program, or the "
-                + "length of the text if it ends too early.");
+        about(PROSE, "The error position is the offset, from 0, of the first character that cannot continue a "
+                + "program, or the length of the text if it ends too early.");
         String many = "u".repeat(98);
         isWrong("x", 0);
         isWrong("xx)", 0);

@@ -82,6 +82,10 @@ final class RunBoundaries extends Boundary {
         Check.define(x, 'B', "A");
         Check.define(x, 'A', "f1");
         Check.same("also within another one", 1, () -> Check.run(x, "B"));
+        Check.define(x, 'A', "1(u)");
+        Check.same("each time that it is called", 3, () -> Check.run(x, "AAA"));
+        Check.define(x, 'A', "1()");
+        Check.raises("each time, with its rounds", STATE, () -> Check.run(x, "1000(A)1()"));
     }
 
     private static void startOfARun() {
@@ -230,7 +234,8 @@ final class RunBoundaries extends Boundary {
     }
 
     private static void promise1() {
-        about(1, "Creates a turtle with 4 directions, undefined procedures and a track that has only its start point.");
+        about(1, "Creates a turtle with 4 directions, undefined procedures and a track that has only its start "
+                + "point.");
         ExactTurtle x = new ExactTurtle();
         Check.same("4 directions", 4, () -> new ExactTurtle().setDirections(4));
         Check.same("no procedures", 0, () -> new ExactTurtle().saveProcedures());
@@ -399,8 +404,8 @@ final class RunBoundaries extends Boundary {
     }
 
     private static void promise4NumberOfCommands() {
-        about(4, "Returns the number of commands of the program, those in parentheses included; -100 minus the error position "
-                + "after a syntax error.");
+        about(4, "Returns the number of commands of the program, those in parentheses included; -100 minus the error "
+                + "position after a syntax error.");
         isRight("", 0, 0);
         isRight("0()", 1, 0);
         isRight("0(u)", 2, 0);
@@ -480,8 +485,9 @@ final class RunBoundaries extends Boundary {
     private static void promise6TheBufferIsEmptyAfterwards() {
         about(6, "The buffer is empty afterwards, also after a syntax error or an exception.");
         about(6, "Parses the input buffer as a program and runs it.");
-        for (String text : new String[] {"", "u", "u".repeat(100), ")", "f", "u".repeat(99) + "f", "C", "uC", "301(u)", "2001()",
-            "f9999", "C" + "u".repeat(99)}) {
+        String[] texts = {"", "u", "u".repeat(100), ")", "f", "u".repeat(99) + "f", "C", "uC", "301(u)", "2001()", "f9999",
+            "C" + "u".repeat(99)};
+        for (String text : texts) {
             for (int call = 0; call < 2; call++) {
                 ExactTurtle x = filled();
                 runAnyhow(x, text);
@@ -492,9 +498,11 @@ final class RunBoundaries extends Boundary {
     }
 
     private static void promise6ThePreviousRunStays() {
-        about(6, "After a syntax error or an exception, the track and everything else that belongs to the previous run stay.");
-        for (Make made : new Make[] {ExactTurtle::new, Boundary::filled, () -> filled(4, "4(f2l1)"), () -> filled(8, "40(A)"),
-            () -> filled(6, "")}) {
+        about(6, "After a syntax error or an exception, the track and everything else that belongs to the previous "
+                + "run stay.");
+        Make[] before = {ExactTurtle::new, Boundary::filled, () -> filled(4, "4(f2l1)"), () -> filled(8, "40(A)"),
+            () -> filled(6, "")};
+        for (Make made : before) {
             answersOnly(made, -100, "run )", x -> Check.run(x, ")"));
             answersOnly(made, -104, "run r1f3)", x -> Check.run(x, "r1f3)"));
             answersOnly(made, -106, "run ur1f3l", x -> Check.run(x, "ur1f3l"));
@@ -507,7 +515,8 @@ final class RunBoundaries extends Boundary {
     }
 
     private static void promise6NumberOfBasicCommands() {
-        about(6, "Returns the number of basic commands that were executed; -100 minus the error position after a syntax error.");
+        about(6, "Returns the number of basic commands that were executed; -100 minus the error position after a "
+                + "syntax error.");
         Check.same("none", 0, () -> new ExactTurtle().run());
         Check.same("none in rounds", 0, () -> Check.run(new ExactTurtle(), "2000()"));
         Check.same("one", 1, () -> Check.run(new ExactTurtle(), "f0"));

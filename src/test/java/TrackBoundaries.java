@@ -48,8 +48,8 @@ final class TrackBoundaries extends Boundary {
     }
 
     private static void commandsWhoseNumberIsNot0() {
-        about(PROSE, "The track of a run consists of the start point and the points reached by the commands f whose number is "
-                + "not 0, in order.");
+        about(PROSE, "The track of a run consists of the start point and the points reached by the commands f whose "
+                + "number is not 0, in order.");
         samePoints(1, "");
         samePoints(1, "f0");
         samePoints(1, "f00f000f0000");
@@ -419,8 +419,8 @@ final class TrackBoundaries extends Boundary {
     }
 
     private static void promise14TheSum() {
-        about(14, "the sum, over all segments, of X * Y' - X' * Y, where X and Y are the doubled coordinates of the first and X' "
-                + "and Y' those of the second point of the segment.");
+        about(14, "the sum, over all segments, of X * Y' - X' * Y, where X and Y are the doubled coordinates of the "
+                + "first and X' and Y' those of the second point of the segment.");
         sameArea(0, 0, 4, "");
         sameArea(0, 0, 4, "l1u");
         sameArea(0, 0, 4, "f1l2f1");
@@ -512,6 +512,8 @@ final class TrackBoundaries extends Boundary {
         // The same line, at a little more than 71, and one along the axis.
         met("level, just before", 0, 0, -1, 12, "ul1f82r4df82ur4f82r5df71");
         met("level, just beyond", 1, 1, 1003, 12, "ul1f82r4df82ur4f82r5df72");
+        met("on one line upright, apart", 0, 0, -1, 4, "l1f2uf2l2df1");
+        met("on one line upright, end at end", 1, 0, 2, 4, "l1f2uf1l2df1");
         met("on one line aslant, apart", 0, 0, -1, 12, "l1f2uf2l6df1");
         met("on one line aslant, end at end", 1, 0, 2, 12, "l1f2uf1l6df1");
         met("on one line aslant, overlapping", 1, 0, 2, 12, "l1f2uf1l6df2");
@@ -528,8 +530,8 @@ final class TrackBoundaries extends Boundary {
     }
 
     private static void promise15PairsThatDoNotCount() {
-        about(15, "Pairs of segments with consecutive numbers do not count, and neither does the pair of the first and the last "
-                + "segment of a closed track.");
+        about(15, "Pairs of segments with consecutive numbers do not count, and neither does the pair of the first "
+                + "and the last segment of a closed track.");
         met("consecutive, on one another", 0, 0, -1, 4, "f3l2f2");
         met("consecutive, closed", 0, 0, -1, 4, "f1l2f1");
         met("the next but one", 1, 0, 2, 4, "f1f1l2f1");
@@ -554,11 +556,20 @@ final class TrackBoundaries extends Boundary {
         // All 150 segments lie on one another: all pairs but the 149 of neighbours and that of the ends.
         met("as many pairs as there can be", 150 * 149 / 2 - 150, 0, 2, 4, "75(f9l2f9l2)");
         met("none of 300", 0, 0, -1, 4, "300(f1)");
+        // Each run of an object is counted anew.
+        ExactTurtle x = new ExactTurtle();
+        for (int i = 0; i < 3; i++) {
+            Check.run(x, "f2l1f1l1f1l1f2");
+            Check.same("of this run", 1, () -> x.meetings());
+            Check.run(x, "75(f9l2f9l2)");
+            Check.same("of the next one", 150 * 149 / 2 - 150, () -> x.meetings());
+            Check.same("and its crossings", 0, () -> x.crossings());
+        }
     }
 
     private static void promise16ExactlyOneCommonPoint() {
-        about(16, "Returns the number of pairs of drawn segments that cross: they have exactly one common point, and it is an end "
-                + "point of neither.");
+        about(16, "Returns the number of pairs of drawn segments that cross: they have exactly one common point, and "
+                + "it is an end point of neither.");
         met("in the middle of both", 1, 1, 3, 4, "f2l1f1l1f1l1f2");
         met("an end of the second", 1, 0, 3, 4, "f2l1f1l1f1l1f1");
         met("a start of the second", 1, 0, 2, 4, "f2ul2f1r1df1");
@@ -583,8 +594,8 @@ final class TrackBoundaries extends Boundary {
     }
 
     private static void promise17InAscendingOrder() {
-        about(17, "Returns the first pair of segments that counts for meetings, in ascending order of the lower and then of the "
-                + "higher number.");
+        about(17, "Returns the first pair of segments that counts for meetings, in ascending order of the lower and "
+                + "then of the higher number.");
         met("the lower number before the higher one", 2, 1, 6, 4, "f1f2l1f1l1f1l1f2r1f2r1f2");
         met("then the higher number", 2, 2, 3, 4, "f3l1f1l1f1l1f2r1f1r1f2");
         met("the higher one alone", 1, 1, 5, 4, "f3l1f1l1f1l1uf2r1f1r1df2");
@@ -602,7 +613,8 @@ final class TrackBoundaries extends Boundary {
     private static void promise17Throws() {
         about(17, "Throws `NoSuchElementException` if there is no such pair");
         refuses(ExactTurtle::new, NONE, "at first", x -> x.firstMeeting());
-        for (String text : new String[] {"", "f1", "f1l2f1", "4(f2l1)", "u8(f2l1)", "f2l1f1l1f1l1uf2", "f2l1f2l1f1l1f1", "300(f1)"}) {
+        String[] texts = {"", "f1", "f1l2f1", "4(f2l1)", "u8(f2l1)", "f2l1f1l1f1l1uf2", "f2l1f2l1f1l1f1", "300(f1)"};
+        for (String text : texts) {
             refuses(() -> filled(4, text), NONE, "after " + text, x -> x.firstMeeting());
         }
         Check.same("after an earlier run with one", 3, () -> {
@@ -628,7 +640,8 @@ final class TrackBoundaries extends Boundary {
     }
 
     private static void promise18Sides() {
-        about(18, "`side`: 0 for the lowest x, 1 for the greatest x, 2 for the lowest y, 3 for the greatest y coordinate");
+        about(18, "`side`: 0 for the lowest x, 1 for the greatest x, 2 for the lowest y, 3 for the greatest y "
+                + "coordinate");
         sameExtremes(4, "", 0, 0, 0, 0, 0, 0, 0, 0);
         sameExtremes(4, "f1", 0, 0, 2, 0, 0, 0, 0, 0);
         sameExtremes(4, "l2f1", -2, 0, 0, 0, 0, 0, 0, 0);
