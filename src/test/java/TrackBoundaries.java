@@ -556,15 +556,22 @@ final class TrackBoundaries extends Boundary {
         // All 150 segments lie on one another: all pairs but the 149 of neighbours and that of the ends.
         met("as many pairs as there can be", 150 * 149 / 2 - 150, 0, 2, 4, "75(f9l2f9l2)");
         met("none of 300", 0, 0, -1, 4, "300(f1)");
-        // Each run of an object is counted anew.
+        eachRunAnew();
+    }
+
+    private static void eachRunAnew() {
         ExactTurtle x = new ExactTurtle();
         for (int i = 0; i < 3; i++) {
-            Check.run(x, "f2l1f1l1f1l1f2");
-            Check.same("of this run", 1, () -> x.meetings());
-            Check.run(x, "75(f9l2f9l2)");
-            Check.same("of the next one", 150 * 149 / 2 - 150, () -> x.meetings());
-            Check.same("and its crossings", 0, () -> x.crossings());
+            sameInTurn(x, "f2l1f1l1f1l1f2", 1, 1);
+            sameInTurn(x, "75(f9l2f9l2)", 150 * 149 / 2 - 150, 0);
+            sameInTurn(x, "f3l1f1l1f1l1f2r1f1r1f2", 2, 2);
         }
+    }
+
+    private static void sameInTurn(ExactTurtle x, String text, int meetings, int crossings) {
+        Check.runRight(x, text);
+        Check.same("in turn, meetings of " + text, meetings, () -> x.meetings());
+        Check.same("in turn, crossings of " + text, crossings, () -> x.crossings());
     }
 
     private static void promise16ExactlyOneCommonPoint() {
