@@ -1062,18 +1062,23 @@ public final class ExactTurtle {
             if (made >= length || made < 0 || made >= MAX_WALK) {
                 return heading == endHeading && isAtEnd(track);
             }
-            letters[made] = 'f';
             move(track.directions, heading, 1);
-            if (walkOn(track, endHeading, heading, length, made + 1)) {
+            if (walkOnAfter('f', track, endHeading, heading, length, made)) {
                 return true;
             }
             move(track.directions, heading, -1);
-            letters[made] = 'l';
-            if (walkOn(track, endHeading, wrap(heading + 1, track.directions), length, made + 1)) {
-                return true;
+            int left = wrap(heading + 1, track.directions);
+            int right = wrap(heading - 1, track.directions);
+            return walkOnAfter('l', track, endHeading, left, length, made)
+                    || walkOnAfter('r', track, endHeading, right, length, made);
+        }
+
+        private boolean walkOnAfter(char letter, Track track, int endHeading, int heading, int length, int made) {
+            if (made < 0 || made >= MAX_WALK) {
+                return false;
             }
-            letters[made] = 'r';
-            return walkOn(track, endHeading, wrap(heading - 1, track.directions), length, made + 1);
+            letters[made] = letter;
+            return walkOn(track, endHeading, heading, length, made + 1);
         }
 
         private void move(int directions, int heading, int times) {

@@ -37,6 +37,12 @@ final class Document {
         return found;
     }
 
+    /** Whether the document has these words, however its lines are broken, or was not found. */
+    static boolean holds(String words) {
+        String text = String.join(" ", lines()).replaceAll("\\s+", " ");
+        return text.isEmpty() || text.contains(words);
+    }
+
     /** The sentences of the description and of the promises that no test has named. */
     static List<String> unnamed() {
         List<String> texts = new ArrayList<>();

@@ -54,7 +54,7 @@ public final class OracleTest {
     }
 
     /** The length of the longest start that a program may have, or -1 for a whole program. */
-    private static int errorPosition(String text) {
+    static int errorPosition(String text) {
         for (int end = 1; end <= text.length(); end++) {
             if (openAfter(text.substring(0, end)) < 0) {
                 return end - 1;
@@ -82,7 +82,7 @@ public final class OracleTest {
         return BEGUN.matcher(text.substring(at)).matches() ? open + 1000 : -1;
     }
 
-    private static int commands(String text) {
+    static int commands(String text) {
         int count = 0;
         Matcher token = TOKEN.matcher(text);
         while (token.find()) {
@@ -92,7 +92,7 @@ public final class OracleTest {
     }
 
     /** A right program of some commands. */
-    private static String program(Random random, int commands, int greatest, String names) {
+    static String program(Random random, int commands, int greatest, String names) {
         return program(random, commands, greatest, names, 0);
     }
 
@@ -189,7 +189,7 @@ public final class OracleTest {
         }
     }
 
-    private static Class<?> exception(String name) {
+    static Class<?> exception(String name) {
         return switch (name) {
             case "NoSuchElementException" -> NoSuchElementException.class;
             case "IllegalStateException" -> IllegalStateException.class;
@@ -226,7 +226,7 @@ public final class OracleTest {
         }
     }
 
-    private static void compareAll(String what, ExactTurtle x, Model model) {
+    static void compareAll(String what, ExactTurtle x, Model model) {
         comparePoints(what, x, model);
         Check.same(what + " direction", model.heading(), () -> x.direction());
         Check.same(what + " turning", model.turned, () -> x.turning());
@@ -332,7 +332,7 @@ public final class OracleTest {
         Check.same(what + " isMirrored", Model.rotationsThatGive(back, sides) > 0, () -> x.isMirrored());
     }
 
-    private static void compareWalk(String what, ExactTurtle x, Model model) {
+    static void compareWalk(String what, ExactTurtle x, Model model) {
         for (int limit = 0; limit <= 6; limit += 2) {
             int n = limit;
             String walk = model.shortestWalk(limit);

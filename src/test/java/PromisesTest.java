@@ -9,7 +9,6 @@ public final class PromisesTest {
     private static final Class<?> RANGE = ArithmeticException.class;
 
     public static void main(String[] args) {
-        examples();
         constants();
         newObject();
         setDirections();
@@ -47,52 +46,6 @@ public final class PromisesTest {
         saveProcedures();
         restoreProcedures();
         Check.end();
-    }
-
-    private static void examples() {
-        ExactTurtle square = new ExactTurtle();
-        Check.same("square run", 8, () -> Check.run(square, "4(f2l1)"));
-        Check.same("square isClosed", true, () -> square.isClosed());
-        Check.same("square area", 32L, () -> square.area(0));
-        Check.same("square corners", 4, () -> square.corners());
-        Check.same("square symmetry", 4, () -> square.symmetry());
-        Check.same("square shortestText", 7, () -> square.shortestText());
-
-        ExactTurtle sixty = new ExactTurtle();
-        Check.same("sixty setDirections", 4, () -> sixty.setDirections(6));
-        Check.same("sixty run", 6, () -> Check.run(sixty, "3(f1l2)"));
-        Check.same("sixty point 1, 0", 2, () -> sixty.point(1, 0));
-        Check.same("sixty point 2, 0", 1, () -> sixty.point(2, 0));
-        Check.same("sixty point 2, 3", 1, () -> sixty.point(2, 3));
-        Check.same("sixty area 0", 0L, () -> sixty.area(0));
-        Check.same("sixty area 1", 2L, () -> sixty.area(1));
-
-        ExactTurtle crossing = new ExactTurtle();
-        Check.same("crossing run", 7, () -> Check.run(crossing, "f2l1f1l1f1l1f2"));
-        Check.same("crossing crossings", 1, () -> crossing.crossings());
-
-        ExactTurtle open = new ExactTurtle();
-        Check.same("open run", 3, () -> Check.run(open, "f1l1f1"));
-        Check.raises("open shortestWalk 2", NONE, () -> open.shortestWalk(2));
-        Check.same("open shortestWalk 3", 3, () -> open.shortestWalk(3));
-        Check.same("open outputAt 0", 'f', () -> open.outputAt(0));
-        Check.same("open outputAt 1", 'l', () -> open.outputAt(1));
-        Check.same("open outputAt 2", 'f', () -> open.outputAt(2));
-        Check.same("open closingRepeats", 4, () -> open.closingRepeats());
-
-        ExactTurtle defined = new ExactTurtle();
-        Check.same("defined define", 2, () -> Check.define(defined, 'A', "f1l1"));
-        Check.raises("defined run", NONE, () -> Check.run(defined, "2(A)B"));
-        Check.same("defined points", 1, () -> defined.points());
-        Check.raises("defined called", INDEX, () -> defined.called(0));
-
-        ExactTurtle wrong = new ExactTurtle();
-        Check.same("wrong run", -102, () -> Check.run(wrong, "f1)"));
-        Check.same("wrong traceAt", -11, () -> wrong.traceAt(0));
-        Check.same("wrong createTrace -1", -14, () -> wrong.createTrace(-1));
-        Check.same("wrong createTrace 2", 2, () -> wrong.createTrace(2));
-        Check.same("wrong traceAt 2", -13, () -> wrong.traceAt(2));
-        Check.same("wrong traceAt 1", -1, () -> wrong.traceAt(1));
     }
 
     private static void constants() {
